@@ -133,6 +133,10 @@ public final class HappeningsTest {
     x.die(1);
     x.setPriority(1, 1, 0);
     Check.due("live, one left while dead", x.live(1), 2);
+    x.die(1);
+    x.setPriority(1, 1, 1);
+    Check.due("live, priority 1 takes part too", x.live(1), 3);
+    Check.due("as a backup", x.state(1, 1), 1);
 
     for (int bad : Samples.OUT_OF_ROUTERS) {
       Check.outOfRange("live, router " + bad, y -> y.live(bad));

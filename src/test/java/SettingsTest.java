@@ -193,6 +193,12 @@ public final class SettingsTest {
     Check.due("the wait with period 1", x.timer(2, 0), 3);
     x.setPriority(2, 1, 1);
     Check.due("the wait with period 10", x.timer(2, 1), 39);
+    x.setPriority(3, 1, 205);
+    Check.due("the wait with period 10, rounded down", x.timer(3, 1), 31);
+    x.setPriority(1, 1, 128);
+    Check.due("the wait with period 10, nothing to round", x.timer(1, 1), 35);
+    x.setPriority(0, 1, 129);
+    Check.due("the wait with period 10, one better", x.timer(0, 1), 34);
     x.tick(3);
     Check.due("a master after the wait", x.masters(0), 4);
     Check.due("advertises after the period", x.timer(2, 0), 1);

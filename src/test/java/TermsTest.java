@@ -91,6 +91,9 @@ public final class TermsTest {
     x.tick(4);
     Check.due("a small step", x.known(1, 0), 30);
     Check.due("is no repair", x.repairs(), 1);
+    x.serve(0, 1);
+    x.tick(4);
+    Check.due("the smallest step", x.known(1, 0), 31);
   }
 
   private static void repairAskedAgain() {
