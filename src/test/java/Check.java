@@ -1,4 +1,5 @@
 import java.util.function.Consumer;
+import java.util.function.Supplier;
 
 /** What the tests share: counting wrong answers, and telling whether a refused call changed anything. */
 final class Check {
@@ -30,20 +31,35 @@ final class Check {
     System.out.println(what);
   }
 
+  /** Out of range is what is documented first, so it is thrown in whatever state the object is. */
   static void outOfRange(String what, Consumer<StandbyPair> call) {
-    refused(what, IllegalArgumentException.class, call);
+    for (Supplier<StandbyPair> made : Samples.STATES) {
+      refused(what, made, "java.lang.IllegalArgumentException", call);
+    }
   }
 
   static void illegalState(String what, Consumer<StandbyPair> call) {
-    refused(what, IllegalStateException.class, call);
+    illegalState(what, Samples::busy, call);
+  }
+
+  static void illegalState(
+      String what, Supplier<StandbyPair> made, Consumer<StandbyPair> call) {
+    refused(what, made, "java.lang.IllegalStateException", call);
+  }
+
+  static void accepted(String what, StandbyPair pair, Consumer<StandbyPair> call) {
+    due(what + " throws", thrownBy(pair, call), "nothing");
   }
 
   /** The call must throw, and an object that it was tried on must go on like one that it was not. */
-  private static void refused(String what, Class<?> kind, Consumer<StandbyPair> call) {
-    StandbyPair tried = Samples.busy();
-    String thrown = thrownBy(tried, call);
-    due(what + " throws", thrown, kind.getName());
-    due("after " + what + ", all that follows", Samples.trail(tried), Samples.trail(Samples.busy()));
+  private static void refused(
+      String what, Supplier<StandbyPair> made, String kind, Consumer<StandbyPair> call) {
+    StandbyPair tried = made.get();
+    due(what + " throws", thrownBy(tried, call), kind);
+    due("after " + what + ", all that follows", Samples.trail(tried), Samples.trail(made.get()));
+    StandbyPair again = made.get();
+    thrownBy(again, call);
+    due("after " + what + ", settings", Samples.settings(again), Samples.settings(made.get()));
   }
 
   static String thrownBy(StandbyPair pair, Consumer<StandbyPair> call) {

@@ -1,5 +1,12 @@
+import java.util.List;
+import java.util.function.Supplier;
+
 /** Objects in states that several tests begin with, and readings of a whole object. */
 final class Samples {
+
+  /** On each of these a refused call is tried. */
+  static final List<Supplier<StandbyPair>> STATES =
+      List.of(StandbyPair::new, Samples::splitPair, Samples::busy, Samples::allDead);
 
   static final int[] OUT_OF_ROUTERS = {-1, 4, Integer.MIN_VALUE, Integer.MAX_VALUE};
   static final int[] OUT_OF_GROUPS = {-1, 3, Integer.MIN_VALUE, Integer.MAX_VALUE};
@@ -59,7 +66,32 @@ final class Samples {
     return x;
   }
 
-  /** All that can be read of an object, in one text; 73 calls. */
+  /** Dead routers that have base priorities, numbers of connections and settings all the same. */
+  static StandbyPair allDead() {
+    StandbyPair x = new StandbyPair();
+    for (int router = 0; router < 4; router++) {
+      for (int group = 0; group < 3; group++) {
+        x.setPriority(router, group, 60 * router + group + 1);
+      }
+      x.track(router, 0, 10 + router);
+      x.track(router, 1, 20 + router);
+      x.setLink(router, router % 2, false);
+    }
+    x.join(0, 1, false);
+    x.join(3, 2, false);
+    x.tick(16);
+    for (int group = 0; group < 3; group++) {
+      x.setPeriod(group, 10 - group);
+      x.setPreemption(group, group != 1, 3 * group + 2);
+      x.serve(group, 40 + group);
+    }
+    for (int router = 0; router < 4; router++) {
+      x.die(router);
+    }
+    return x;
+  }
+
+  /** All that can be read of an object, in one text; at most 73 calls. */
   static String reading(StandbyPair x) {
     StringBuilder text = new StringBuilder();
     for (int group = 0; group < 3; group++) {
@@ -76,33 +108,57 @@ final class Samples {
     return text.append(x.repairs()).toString();
   }
 
-  /** What an object answers from now on, which brings its settings and counts to light too. */
+  /**
+   * What an object answers from now on, which brings to light what is heard and asked for too; at
+   * most 458 calls, so that the object stays below its 512.
+   */
   static String trail(StandbyPair x) {
     StringBuilder text = new StringBuilder(reading(x));
-    text.append(" then ");
     for (int step = 0; step < 5; step++) {
+      text.append(" then ");
       for (int group = 0; group < 3; group++) {
         text.append(x.serve(group, 12)).append(' ');
       }
-      text.append(x.tick(4)).append(' ').append(x.masters(0)).append(' ').append(x.masters(1));
-      text.append(' ').append(x.known(1, 0)).append(' ').append(x.timer(2, 0)).append(' ');
+      text.append(x.tick(4)).append(' ').append(reading(x));
     }
-    text.append(reading(x)).append(" settings ");
+    return text.toString();
+  }
+
+  /**
+   * What an object holds that nothing reads: who is alive, the base priorities, links, decrements,
+   * who is joined with whom, periods, pre-emption and delays; some 170 calls that end the object.
+   */
+  static String settings(StandbyPair x) {
+    StringBuilder text = new StringBuilder();
     for (int router = 0; router < 4; router++) {
+      int r = router;
+      text.append(Check.thrownBy(x, y -> y.live(r))).append(' ');
       for (int link = 0; link < 2; link++) {
         text.append(x.track(router, link, 0)).append(' ');
         text.append(x.setLink(router, link, true)).append(' ');
       }
-      for (int other = router + 1; other < 4; other++) {
+      for (int other = 0; other < router; other++) {
         text.append(x.join(router, other, true)).append(' ');
+      }
+      for (int group = 0; group < 3; group++) {
+        text.append(x.setPriority(router, group, 0)).append(' ');
       }
     }
     for (int group = 0; group < 3; group++) {
       text.append(x.setPeriod(group, 1)).append(' ');
-      for (int router = 0; router < 4; router++) {
-        text.append(x.setPriority(router, group, 0)).append(' ');
+      x.setPriority(0, group, 1);
+    }
+    text.append(x.tick(3)).append(' ');
+    // Router 0 advertises 1 at each tick now: how long router 1 waits tells the delay.
+    for (int group = 0; group < 3; group++) {
+      x.setPriority(1, group, 254);
+    }
+    for (int n = 0; n < 15; n++) {
+      x.tick(1);
+      for (int group = 0; group < 3; group++) {
+        text.append(x.timer(1, group)).append(' ');
       }
     }
-    return text.append(x.live(3)).toString();
+    return text.toString();
   }
 }
